@@ -377,13 +377,6 @@ public final class PageRotas {
             resolved = other.resolved;
         }
 
-        void makeNew() {
-            quiet.put(0, 0);
-            exceptions = 0;
-            pages = 0;
-            resolved = 0;
-        }
-
         boolean sleepsThrough(int cause, int severity, int hour) {
             return severity == 0 && (exceptions >> cause & 1) == 0 && quiet.has(hour);
         }
@@ -392,7 +385,7 @@ public final class PageRotas {
     private static final class Region {
         final Span hours = new Span();
         final int[] rota = new int[ROTA_LIMIT];
-        int shift = 1;
+        int shift;
         int size;
 
         void copyFrom(Region other) {
@@ -402,10 +395,9 @@ public final class PageRotas {
             size = other.size;
         }
 
-        void makeNew(int from, int to, int newShift) {
+        void put(int from, int to, int newShift) {
             hours.put(from, to);
             shift = newShift;
-            size = 0;
         }
 
         boolean covers(int hour) {
@@ -468,7 +460,10 @@ public final class PageRotas {
         }
     }
 
-    /** People, regions and overrides: all that tells who is on call. */
+    /**
+     * People, regions and overrides: all that tells who is on call. People and regions never go but by
+     * undo, which brings back the untouched rows as well: so a row that is taken into use is always new.
+     */
     private static final class Rotas {
         final Person[] people = new Person[PEOPLE_LIMIT];
         final Region[] regions = new Region[REGION_LIMIT];
@@ -517,7 +512,6 @@ public final class PageRotas {
             if (number < 0 || number >= people.length) {
                 return LIMIT_REACHED;
             }
-            people[number].makeNew();
             peopleCount++;
             return number;
         }
@@ -530,7 +524,7 @@ public final class PageRotas {
             if (number < 0 || number >= regions.length) {
                 return LIMIT_REACHED;
             }
-            regions[number].makeNew(from, to, shift);
+            regions[number].put(from, to, shift);
             regionCount++;
             return number;
         }

@@ -22,6 +22,7 @@ public final class IncidentsTest {
         handOffToNobody();
         handOffByARota();
         minutesUnowned();
+        numbersAreFresh();
         set();
         incidentOf();
         count();
@@ -112,6 +113,10 @@ public final class IncidentsTest {
         check.due("no owner", x.incidentOf(0, 3), NOT_FOUND);
         x.alert(4, 0);
         check.due("still none", x.incidentOf(0, 3), NOT_FOUND);
+        x.quiet(0, 0, 0);
+        x.alert(4, 0);
+        check.due("the same severity does not page", x.incidentOf(0, 3), NOT_FOUND);
+        x.quiet(0, 0, 23);
         x.pass(3);
         x.alert(4, 1);
         check.due("paged for at once", x.incidentOf(0, 3), 0);
@@ -360,6 +365,25 @@ public final class IncidentsTest {
         check.due("owner", x.incidentOf(1, 3), 0);
         x.pass(1);
         check.due("the next one does not", x.incidentOf(1, 8), 8);
+    }
+
+    private static void numbersAreFresh() {
+        check.about("promise 11, a number used again");
+        PageRotas x = new PageRotas();
+        x.person();
+        x.region(1, 2, 1);
+        x.join(0, 0);
+        x.alert(5, 2);
+        x.alert(5, 2);
+        x.pass(75);
+        x.acknowledge(0);
+        x.pass(100);
+        x.resolve(0);
+        check.due("alert(6, 0)", x.alert(6, 0), 0);
+        int[] due = {6, 0, 0, NOT_FOUND, 0, 1, 175, 175, 0, NOT_FOUND, 0, 0};
+        for (int what = 0; what < due.length; what++) {
+            check.due("incidentOf(0, " + what + ")", x.incidentOf(0, what), due[what]);
+        }
     }
 
     private static void set() {

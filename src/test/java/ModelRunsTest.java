@@ -177,7 +177,8 @@ public final class ModelRunsTest {
             case 3:
                 return "r" + number(dice.from(0, 3)) + ";";
             case 4:
-                return "o" + dice.from(0, 1) + "," + dice.from(0, 3) + "," + number(dice.from(dice.oneIn(9) ? 0 : 1, 4)) + ";";
+                int hours = dice.from(dice.oneIn(9) ? 0 : 1, 4);
+                return "o" + dice.from(0, 1) + "," + dice.from(0, 3) + "," + number(hours) + ";";
             default:
                 return "t" + number(minutes() & 1023) + ";";
         }

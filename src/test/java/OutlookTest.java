@@ -100,6 +100,7 @@ public final class OutlookTest {
         check.about("promise 20");
         PageRotas x = house(2, 0, 2, 24);
         x.alert(1, 1);
+        check.due("later(0, 1, 0)", x.later(0, 1, 0), 0);
         check.due("later(0, 9, 0)", x.later(0, 9, 0), 0);
         check.due("later(0, 10, 0)", x.later(0, 10, 0), 1);
         check.due("later(0, 10, 1)", x.later(0, 10, 1), 1);
@@ -254,9 +255,10 @@ public final class OutlookTest {
         x.pass(7);
         x.alert(2, 1);
         x.override(0, 2, 1);
-        x.type('t');
-        x.type('9');
-        x.type(';');
+        x.person();
+        for (char c : "r0;t99;a3,1;".toCharArray()) {
+            x.type(c);
+        }
         return x;
     }
 
@@ -298,7 +300,6 @@ public final class OutlookTest {
             case 1:
                 return x.region(3, 4, 5);
             case 2:
-                x.person();
                 return x.join(0, 3);
             case 3:
                 return x.leave(0, 1);
@@ -320,6 +321,8 @@ public final class OutlookTest {
                 return x.pass(600);
             case 12:
                 return x.set(1, 7);
+            case 13:
+                return x.set(0, 7);
             default:
                 return x.play();
         }
@@ -327,17 +330,14 @@ public final class OutlookTest {
 
     private static void undoOfEachChange() {
         check.about("promise 23, of each change");
-        for (int which = 0; which <= 13; which++) {
+        for (int which = 0; which <= 14; which++) {
             PageRotas x = busyHouse();
             int[] before = told(x);
             check.due("change " + which + " returns no error", change(x, which) >= 0 ? 1 : 0, 1);
             check.due("change " + which + " changes something", same(before, told(x)), 0);
             x.undo();
-            if (which == 2) {
-                x.undo();
-            }
             check.due("change " + which + " is undone", same(before, told(x)), 1);
-            check.due("the text stays", x.count(15), 3);
+            check.due("the text stays", x.count(15), 12);
         }
     }
 

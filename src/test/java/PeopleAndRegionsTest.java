@@ -18,6 +18,7 @@ public final class PeopleAndRegionsTest {
         except();
         override();
         overrideEnds();
+        overridesThatStay();
         rotaAt();
         personOf();
         personOfPresentHour();
@@ -67,6 +68,14 @@ public final class PeopleAndRegionsTest {
         check.due("count(14)", x.count(14), 4);
         x.undo();
         check.due("person() again", x.person(), 7);
+        x.quiet(7, 0, 5);
+        x.except(7, 3);
+        x.undo();
+        x.undo();
+        x.undo();
+        check.due("person() again", x.person(), 7);
+        check.due("without quiet hours", x.personOf(7, 5), 0);
+        check.due("without exceptions", x.personOf(7, 6), 0);
     }
 
     private static void region() {
@@ -272,6 +281,25 @@ public final class PeopleAndRegionsTest {
         check.due("undo()", x.undo(), 3);
         check.due("count(13)", x.count(13), 0);
         check.due("onCall(0, 0)", x.onCall(0, 0), 0);
+    }
+
+    private static void overridesThatStay() {
+        check.about("promise 8, those that stay when others end");
+        PageRotas x = house(5);
+        x.region(0, 23, 24);
+        x.join(0, 0);
+        x.override(0, 1, 1);
+        x.override(0, 2, 4);
+        x.override(0, 3, 1);
+        x.override(0, 4, 3);
+        x.pass(60);
+        check.due("override(0, 0, 1)", x.override(0, 0, 1), 3);
+        check.due("onCall(0, 0)", x.onCall(0, 0), 0);
+        check.due("onCall(60, 0)", x.onCall(60, 0), 4);
+        check.due("onCall(119, 0)", x.onCall(119, 0), 4);
+        check.due("onCall(120, 0)", x.onCall(120, 0), 2);
+        check.due("onCall(179, 0)", x.onCall(179, 0), 2);
+        check.due("onCall(180, 0)", x.onCall(180, 0), 0);
     }
 
     private static void rotaAt() {

@@ -68,6 +68,11 @@ public final class TextsTest {
         check.due("clearText()", x.clearText(), 0);
         write(x, "t1;");
         check.due("fault(0)", x.fault(0), NOT_FOUND);
+        x.clearText();
+        x.type('t');
+        x.type('1');
+        check.due("fault(0), the old sign behind is gone", x.fault(0), 0);
+        check.due("fault(1), the old sign behind is gone", x.fault(1), 1);
     }
 
     private static void faultArguments() {
