@@ -14,6 +14,10 @@ final class Check {
         about = what;
     }
 
+    int asked() {
+        return asked;
+    }
+
     void due(String call, int got, int want) {
         asked++;
         if (got != want) {
