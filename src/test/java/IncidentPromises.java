@@ -10,9 +10,14 @@ final class IncidentPromises extends Section {
         acknowledge();
         resolve();
         pass();
+        pagesOfMinutes();
+        passErrors();
         set();
         incidentOf();
-        incidentOfTimes();
+        incidentOfLevels();
+        incidentOfAlerts();
+        incidentOfUnowned();
+        incidentOfHandOffs();
         incidentOfErrors();
         count();
         countOfIncidents();
@@ -169,6 +174,10 @@ final class IncidentPromises extends Section {
         due(x, "count(2)", 609);
         dueForEach(x, "pass(%)", outside(1, 600), INVALID);
         due(x, "count(2)", 609);
+    }
+
+    private void pagesOfMinutes() {
+        PageRotas x = new PageRotas();
         sentence("Returns how many pages there are in them;");
         due("of no incident", call(x, "pass(60)"), 0);
         PageRotas y = watch(2, 24);
@@ -182,6 +191,10 @@ final class IncidentPromises extends Section {
         PageRotas z = dayAndNight(1);
         go(z, "pass(600)", "alert(1, 1)", "acknowledge(0)");
         due("a hand-off", call(z, "pass(120)"), 1);
+    }
+
+    private void passErrors() {
+        PageRotas z = new PageRotas();
         sentence("INVALID_ARGUMENT if minutes is out of range;");
         passTo(z, 30000);
         due("at the last time, too", call(z, "pass(0)"), INVALID);
@@ -276,7 +289,7 @@ final class IncidentPromises extends Section {
         due("the greater one", call(y, "incidentOf(1, 1)"), 2);
     }
 
-    private void incidentOfTimes() {
+    private void incidentOfLevels() {
         PageRotas x = watch(5, 24);
         sentence("2: its level;");
         go(x, "set(0, 1)", "alert(1, 1)");
@@ -294,6 +307,9 @@ final class IncidentPromises extends Section {
         go(x, "acknowledge(0)");
         due(x, "incidentOf(0, 4)", 1);
         due("without an owner", call(quietIncident(), "incidentOf(0, 4)"), 0);
+    }
+
+    private void incidentOfAlerts() {
         sentence("5: its alerts;");
         PageRotas y = watch(2, 24);
         for (int i = 1; i <= 9; i++) {
@@ -306,6 +322,9 @@ final class IncidentPromises extends Section {
         dueTimeOfAlert(6, 0);
         sentence("7: that of its latest one;");
         dueTimeOfAlert(7, 30);
+    }
+
+    private void incidentOfUnowned() {
         sentence("8: its time unowned;");
         PageRotas z = new PageRotas();
         go(z, "pass(10)", "alert(1, 1)");
@@ -325,6 +344,9 @@ final class IncidentPromises extends Section {
         due("later ones found nobody", call(w, "incidentOf(0, 9)"), 5);
         go(w, "alert(1, 1)");
         due(w, "incidentOf(0, 9)", 15);
+    }
+
+    private void incidentOfHandOffs() {
         sentence("10: how often it was handed off so far;");
         PageRotas v = dayAndNight(1);
         go(v, "alert(1, 1)", "alert(2, 1)");

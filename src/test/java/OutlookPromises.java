@@ -13,6 +13,7 @@ final class OutlookPromises extends Section {
         laterArguments();
         laterAnswers();
         acknowledgeBits();
+        acknowledgeBitsOfSome();
         unownedBits();
         smallAndGreatShares();
         undo();
@@ -254,6 +255,9 @@ final class OutlookPromises extends Section {
         passTo(y, 724);
         due("that of a hand-off", call(y, "acknowledge(0)"), 4);
         due("each time of one incident", call(y, "acknowledgeBits()"), Float.floatToIntBits(7f / 2f));
+    }
+
+    private void acknowledgeBitsOfSome() {
         sentence("Returns the bits;");
         PageRotas z = watch(1, 24);
         go(z, "alert(1, 1)", "acknowledge(0)");

@@ -14,6 +14,7 @@ final class PeoplePromises extends Section {
         quiet();
         except();
         override();
+        overridesInForce();
         overrideHours();
         rotaAt();
         personOf();
@@ -309,6 +310,9 @@ final class PeoplePromises extends Section {
         dueForEach(y, "override(%, 0, 1)", range(0, 2), LIMIT);
         due(y, "undo()", 3);
         due(y, "override(2, 0, 1)", 6);
+    }
+
+    private void overridesInForce() {
         sentence("Returns how many are in force then;");
         PageRotas z = watch(1, 24);
         due(z, "override(0, 0, 1)", 1);
@@ -320,6 +324,11 @@ final class PeoplePromises extends Section {
         due("another one has ended", call(z, "override(0, 0, 1)"), 2);
         go(z, "pass(60)");
         due("all have ended", call(z, "override(0, 0, 1)"), 1);
+        PageRotas w = watch(1, 24);
+        go(w, "override(0, 0, 1)", "override(0, 0, 1)", "override(0, 0, 3)", "pass(60)");
+        due("the last one is left", call(w, "override(0, 0, 9)"), 2);
+        due(w, "count(13)", 2);
+        due(w, "override(0, 0, 9)", 3);
         dueWhenOthersEnd();
     }
 
